@@ -255,6 +255,11 @@ public final class PromisesTest {
         CHECK.due("10: the text fits then", true, () -> x.fits(0));
         x.setText(2, 40);
         CHECK.due("10: to the end of the slide", 20, () -> x.grow(2));
+        SlideLayout apart = slide(50, 0, 20, 10, 50, 50, 20, 10, 0, 80, 20, 10);
+        apart.setText(0, 90);
+        CHECK.due("10: it looks below its own left and top", 45, () -> apart.grow(0));
+        apart.setText(2, 60);
+        CHECK.due("10: nothing is below this one", 30, () -> apart.grow(2));
         CHECK.due("10: it is no move", 0L, x::moved);
     }
 
@@ -464,6 +469,27 @@ public final class PromisesTest {
         best(off, 'x', 2, "one way leads off the slide, the other does not");
         off.setLocked(0, true);
         best(off, 'x', 0, "it would lie off the slide");
+        SlideLayout turned = slide(0, 0, 10, 20, 5, 50, 10, 30);
+        turned.addWish('m', 0, 1, 9);
+        best(turned, 'y', 0, "they would overlap along y");
+        turned.moveTo(1, 10, 50);
+        best(turned, 'y', 9, "they would touch along y");
+        SlideLayout touch = slide(0, 0, 20, 10, 50, 5, 30, 10, 20, 40, 30, 10);
+        touch.addWish('l', 1, 2, 4);
+        touch.setLocked(0, true);
+        touch.setLocked(2, true);
+        best(touch, 'x', 4, "it touches 0 behind its end");
+        SlideLayout before = slide(60, 0, 20, 10, 0, 5, 30, 10, 30, 40, 30, 10);
+        before.addWish('l', 1, 2, 4);
+        before.setLocked(0, true);
+        before.setLocked(2, true);
+        best(before, 'x', 4, "it touches 0 before its start");
+        before.setLocked(2, false);
+        before.moveTo(2, 31, 40);
+        before.setLocked(2, true);
+        best(before, 'x', 0, "one unit would be shared");
+        before.setLocked(0, false);
+        best(before, 'x', 4, "0 goes out of the way");
         CHECK.fails("18: axis z", x, ARGUMENT, () -> x.bestStrength('z'));
         CHECK.fails("19: axis z", x, ARGUMENT, () -> x.bestByAll('z'));
     }
@@ -522,6 +548,12 @@ public final class PromisesTest {
         CHECK.due("22: top of 2", 20, () -> x.startOf(2, 'y'));
         CHECK.due("22: all is counted", 47L, x::moved);
         CHECK.due("22: strength then", 3, () -> x.strength('x'));
+        SlideLayout first = slide(60, 0, 20, 10, 40, 20, 20, 10);
+        first.addWish('l', 0, 1, 1);
+        first.setLocked(1, true);
+        CHECK.due("22: the first shape moves", 20, () -> first.tidy('x'));
+        CHECK.due("22: left of 0 then", 40, () -> first.startOf(0, 'x'));
+        CHECK.due("22: left of the locked one", 40, () -> first.startOf(1, 'x'));
         CHECK.due("22: of no shape", 0, () -> new SlideLayout().tidy('x'));
         CHECK.fails("22: axis z", x, ARGUMENT, () -> x.tidy('z'));
     }
@@ -541,6 +573,36 @@ public final class PromisesTest {
         even(full, 'x', 100, "they take the whole slide");
         SlideLayout four = slide(0, 0, 10, 10, 5, 10, 10, 10, 12, 20, 10, 10, 190, 30, 10, 10);
         even(four, 'x', 173, "four");
+        SlideLayout ends = slide(0, 0, 20, 10, 30, 20, 20, 10, 180, 40, 20, 10);
+        even(ends, 'x', 60, "from the one end of the slide to the other");
+        SlideLayout high = slide(190, 0, 10, 10, 190, 20, 10, 10, 190, 40, 10, 10);
+        even(high, 'x', 30, "the best start would lead off the slide");
+        SlideLayout near = slide(50, 0, 20, 10, 60, 20, 20, 10, 80, 40, 20, 10);
+        even(near, 'x', 10, "the first one makes room");
+        near.setLocked(0, true);
+        even(near, 'x', 20, "the first one is locked");
+        near.setLocked(0, false);
+        near.setLocked(2, true);
+        even(near, 'x', 10, "the last one is locked");
+        SlideLayout low = slide(0, 0, 10, 10, 0, 20, 10, 10, 0, 40, 10, 10);
+        even(low, 'x', 30, "the best start would lie before the slide");
+        SlideLayout inside = slide(50, 0, 20, 10, 80, 20, 20, 10, 120, 40, 20, 10);
+        even(inside, 'x', 5, "far from both ends");
+        inside.setLocked(1, true);
+        even(inside, 'x', 10, "far from both ends, one locked");
+        inside.setLocked(1, false);
+        inside.setLocked(0, true);
+        inside.setLocked(2, true);
+        even(inside, 'x', 5, "the first and the last one locked");
+        inside.setLocked(1, true);
+        notEven(inside, 'x', "all locked");
+        CHECK.due("24: each search begins anew", true, () -> inside.setLocked(1, false));
+        CHECK.due("24: each search begins anew, cost", 5, () -> inside.evenByAll('x'));
+        inside.moveTo(1, 85, 20);
+        CHECK.due("24: each search begins anew, then", 0, () -> inside.evenByAll('x'));
+        inside.moveTo(1, 82, 20);
+        CHECK.due("24: each search begins anew, at last", 3, () -> inside.evenByAll('x'));
+        CHECK.due("23: each search begins anew", 3, () -> inside.evenCost('x'));
     }
 
     private static void even(SlideLayout x, char axis, int want, String what) {
@@ -597,9 +659,24 @@ public final class PromisesTest {
         CHECK.due("25: same start, lowest gap", 0, () -> same.spread('x'));
         CHECK.due("25: the lower number comes first, at its lowest start", 0, () -> same.startOf(0, 'x'));
         CHECK.due("25: then the other one", 20, () -> same.startOf(1, 'x'));
-        SlideLayout ends = slide(0, 0, 10, 10, 21, 20, 10, 10, 43, 40, 10, 10);
-        CHECK.due("25: of equal costs the lowest gap", 11, () -> ends.spread('x'));
-        CHECK.due("25: and the lowest start", 0, () -> ends.startOf(0, 'x'));
+        SlideLayout ties = slide(0, 0, 10, 10, 5, 10, 10, 10, 12, 20, 10, 10, 190, 30, 10, 10);
+        CHECK.due("25: of equal costs for all gaps to 53 the lowest one", 0, () -> ties.spread('x'));
+        CHECK.due("25: left of 3 then", 30, () -> ties.startOf(3, 'x'));
+        SlideLayout inside = slide(50, 0, 20, 10, 80, 20, 20, 10, 120, 40, 20, 10);
+        CHECK.due("25: far from both ends", 15, () -> inside.spread('x'));
+        CHECK.due("25: the first one stays there", 50, () -> inside.startOf(0, 'x'));
+        CHECK.due("25: the middle one is moved there", 85, () -> inside.startOf(1, 'x'));
+        CHECK.due("25: the last one stays there", 120, () -> inside.startOf(2, 'x'));
+        SlideLayout locked = slide(50, 0, 20, 10, 80, 20, 20, 10, 120, 40, 20, 10);
+        locked.setLocked(1, true);
+        CHECK.due("25: of gaps 10 to 20 with equal costs the lowest one", 10, () -> locked.spread('x'));
+        CHECK.due("25: the locked one stays", 80, () -> locked.startOf(1, 'x'));
+        CHECK.due("25: the first one stays too", 50, () -> locked.startOf(0, 'x'));
+        CHECK.due("25: the last one comes nearer", 110, () -> locked.startOf(2, 'x'));
+        SlideLayout down = slide(0, 10, 10, 10, 20, 40, 10, 10, 40, 100, 10, 10);
+        CHECK.due("25: along y", 35, () -> down.spread('y'));
+        CHECK.due("25: the top of 1", 55, () -> down.startOf(1, 'y'));
+        CHECK.due("25: its left stays", 20, () -> down.startOf(1, 'x'));
     }
 
     private static void promise26Guides() {
@@ -655,6 +732,11 @@ public final class PromisesTest {
         inGroups(x, 89, 2, "the last one is far");
         inGroups(x, 90, 1, "all");
         inGroups(x, 200, 1, "the greatest distance");
+        SlideLayout y = slide(0, 0, 10, 10, 0, 70, 10, 10, 5, 30, 10, 10, 8, 110, 10, 10);
+        inGroups(y, 19, 4, "just not linked along y");
+        inGroups(y, 20, 3, "0 and 2 are linked along y");
+        inGroups(y, 29, 3, "1 and 3 are not");
+        inGroups(y, 30, 1, "all along y");
         inGroups(new SlideLayout(), 10, 0, "no shape");
         inGroups(slide(0, 0, 10, 10, 10, 10, 10, 10), 0, 1, "they touch");
         for (int distance : new int[] {-1, 201, LEAST, MOST}) {
@@ -677,6 +759,10 @@ public final class PromisesTest {
         CHECK.due("31: the lowest one itself", 1, () -> x.groupOf(1, 30));
         CHECK.due("31: 0 is far", 0, () -> x.groupOf(0, 30));
         CHECK.due("31: all", 0, () -> x.groupOf(2, 200));
+        SlideLayout y = slide(0, 0, 10, 10, 0, 70, 10, 10, 5, 40, 10, 10, 8, 110, 10, 10);
+        CHECK.due("31: along y with 1 alone", 1, () -> y.groupOf(2, 20));
+        CHECK.due("31: along y 3 is alone", 3, () -> y.groupOf(3, 20));
+        CHECK.due("31: along y all", 0, () -> y.groupOf(3, 30));
         CHECK.fails("31: shape 4", x, INDEX, () -> x.groupOf(4, -1));
         CHECK.fails("31: shape -1", x, INDEX, () -> x.groupOf(-1, 0));
         CHECK.fails("31: distance -1", x, ARGUMENT, () -> x.groupOf(0, -1));
