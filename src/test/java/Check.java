@@ -33,6 +33,10 @@ final class Check {
         }
     }
 
+    int checked() {
+        return checked;
+    }
+
     /** Ends the program: with 1 if an answer was wrong. */
     void close(String test) {
         System.out.println(test + ": " + checked + " answers checked, " + wrong + " not as due");

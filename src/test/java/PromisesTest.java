@@ -1,7 +1,7 @@
 import java.util.NoSuchElementException;
 
 /** Promise by promise: ordinary inputs, the edges that the document names, and wrong inputs. */
-public final class PromisesTest {
+public final class PromisesTest extends Slides {
     private static final int LEAST = Integer.MIN_VALUE;
     private static final int MOST = Integer.MAX_VALUE;
     private static final Class<IllegalArgumentException> ARGUMENT = IllegalArgumentException.class;
@@ -51,15 +51,6 @@ public final class PromisesTest {
         promise34MeanDistance();
         promise35IsSound();
         CHECK.close("PromisesTest");
-    }
-
-    /** Makes a slide with shapes, each one given as left, top, width and height. */
-    private static SlideLayout slide(int... numbers) {
-        SlideLayout slide = new SlideLayout();
-        for (int i = 0; i + 3 < numbers.length; i += 4) {
-            slide.addShape(numbers[i], numbers[i + 1], numbers[i + 2], numbers[i + 3]);
-        }
-        return slide;
     }
 
     private static void promise1NewObject() {

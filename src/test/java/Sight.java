@@ -14,7 +14,7 @@ final class Sight {
             text.append(slide.moveReason(shape, -1, -1)).append(slide.growReason(shape));
             text.append(slide.fits(shape)).append(" / ");
         }
-        for (int wish = 0; wish < 8; wish++) {
+        for (int wish = 0; wish <= 8; wish++) {
             text.append(metOrNot(slide, wish)).append(' ');
         }
         for (char axis : new char[] {'x', 'y'}) {
@@ -23,7 +23,7 @@ final class Sight {
         return text.append(slide.moved()).toString();
     }
 
-    private static int shapeCount(SlideLayout slide) {
+    static int shapeCount(SlideLayout slide) {
         for (int shape = 0; shape < 4; shape++) {
             try {
                 slide.startOf(shape, 'x');
