@@ -507,9 +507,13 @@ public final class TermsEdgesTest extends Edges {
                 int number = shape;
                 due("all side by side stay, shape " + number, 50 * number, () -> x.tidyStart(number, 'x'));
             }
-            x.addWish('l', 0, 1, 9);
-            due("a wish that no allowed layout meets", 0, () -> x.bestStrength('x'));
-            due("the same by all", 0, () -> x.bestByAll('x'));
+            for (int pair = 0; pair < 6; pair++) {
+                int shape = new int[] {0, 0, 0, 1, 1, 2}[pair];
+                int other = new int[] {1, 2, 3, 2, 3, 3}[pair];
+                x.addWish('l', shape, other, 9);
+                due("a wish that no allowed layout meets, " + shape + " " + other, 0, () -> x.bestStrength('x'));
+                due("the same by all, " + shape + " " + other, 0, () -> x.bestByAll('x'));
+            }
             due("so nothing moves", 0, () -> x.tidy('x'));
             SlideLayout barred = slide(40, 0, 20, 10, 100, 20, 30, 10, 100, 5, 21, 6, 40, 25, 21, 6);
             barred.setLocked(2, true);
