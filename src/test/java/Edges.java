@@ -99,6 +99,15 @@ abstract class Edges extends Slides {
         }
     }
 
+    /** Each sentence of the whole document must stand in the source of the tests, as one text. */
+    static void allQuotedIn(String tests) {
+        for (String name : SENTENCES.sections()) {
+            for (String sentence : SENTENCES.of(name)) {
+                CHECK.compare(name + ", \"" + sentence + "\" is quoted", true, tests.contains('"' + sentence + '"'));
+            }
+        }
+    }
+
     /** In a promise, what is thrown, and whatever names a number; among the terms, all but the headings. */
     private static boolean mayNameAnEdge(String name, String sentence) {
         if (name.startsWith("Promise")) {

@@ -59,7 +59,9 @@ public final class FaceTest {
     public static void main(String[] args) throws Exception {
         faceIsTheDocuments();
         nothingElseIsShown();
-        sourceKeepsToTheLibrary(args.length > 0 ? args[0] : "src/main/java/SlideLayout.java");
+        String file = args.length > 0 ? args[0] : "src/main/java/SlideLayout.java";
+        sourceKeepsToTheLibrary(file);
+        methodsAreShort(file);
         callsMakeNothing();
         CHECK.close("FaceTest");
     }
@@ -100,11 +102,14 @@ public final class FaceTest {
         }
         classes.add(SlideLayout.class);
         for (Class<?> any : classes) {
+            int fields = 0;
             for (Field field : any.getDeclaredFields()) {
                 int modifiers = field.getModifiers();
                 CHECK.compare("no static field that changes: " + field, false,
                         Modifier.isStatic(modifiers) && !Modifier.isFinal(modifiers));
+                fields += Modifier.isStatic(modifiers) ? 0 : 1;
             }
+            CHECK.compare("at most 20 fields: " + any, true, fields <= 20);
             for (Method method : any.getDeclaredMethods()) {
                 CHECK.compare("no private method bears a name of the face: " + method, false,
                         !Modifier.isPublic(method.getModifiers()) && faceNames.contains(method.getName()));
@@ -127,6 +132,28 @@ public final class FaceTest {
             }
             CHECK.compare("signs 1 to 127: " + line, true, line.chars().allMatch(sign -> sign < 128));
         }
+    }
+
+    /** A method begins and ends 4 signs from the edge, and 8 signs from it in a class inside. */
+    private static void methodsAreShort(String file) throws Exception {
+        String edge = "    ";
+        int start = 0;
+        int methods = 0;
+        List<String> lines = Files.readAllLines(Path.of(file));
+        for (int line = 0; line < lines.size(); line++) {
+            String text = lines.get(line);
+            if (text.matches(" {4}\\w.* class .*")) {
+                edge = "        ";
+            } else if (text.matches(edge + "\\w.*")) {
+                start = line;
+            } else if (text.equals(edge + "}")) {
+                CHECK.compare("at most 60 lines: " + lines.get(start), true, line - start < 60);
+                methods++;
+            } else if (text.equals("    }")) {
+                edge = "    ";
+            }
+        }
+        CHECK.compare("the methods were found, as " + methods, true, methods > 100);
     }
 
     /** All rows are made with the object: 512 calls of the dearest kinds must not take more room by the call. */

@@ -5,6 +5,7 @@ import java.util.ArrayList;
 import java.util.LinkedHashMap;
 import java.util.List;
 import java.util.Map;
+import java.util.Set;
 
 /** The document's sentences, by the section in which they stand: "Terms", "Promise 1" and so on. */
 final class Sentences {
@@ -21,6 +22,10 @@ final class Sentences {
 
     List<String> of(String section) {
         return bySection.getOrDefault(section, List.of());
+    }
+
+    Set<String> sections() {
+        return bySection.keySet();
     }
 
     private static String read() {
